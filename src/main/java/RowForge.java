@@ -109,7 +109,8 @@ public final class RowForge {
         demandState(drafted == schema.widths[table]);
         writer.planInsert(table, draft, drafted);
         drafted = 0;
-        return engine.tryWrite(writer);
+        engine.settle(writer);
+        return writer.lastOutcome;
     }
 
     public int update(int transaction, int table, int key, int column, int value) throws IndexOutOfBoundsException, IllegalArgumentException, IllegalStateException {
@@ -117,19 +118,22 @@ public final class RowForge {
         demandRange(isNumber(value) || value == NULL);
         Transaction writer = activeTransaction(transaction);
         writer.planUpdate(table, key, column, value);
-        return engine.tryWrite(writer);
+        engine.settle(writer);
+        return writer.lastOutcome;
     }
 
     public int delete(int transaction, int table, int key) throws IndexOutOfBoundsException, IllegalStateException {
         demandPlace(engine.hasTransaction(transaction) && schema.hasTable(table));
         Transaction writer = activeTransaction(transaction);
         writer.planDelete(table, key);
-        return engine.tryWrite(writer);
+        engine.settle(writer);
+        return writer.lastOutcome;
     }
 
     public int commit(int transaction) throws IndexOutOfBoundsException, IllegalStateException {
         demandPlace(engine.hasTransaction(transaction));
         int result = engine.tryCommit(activeTransaction(transaction));
+        engine.settle(null);
         if (result == DONE) {
             refreshViews();
         }
@@ -140,7 +144,7 @@ public final class RowForge {
         Transaction ending = transactionAt(transaction);
         demandState(ending.isOpen());
         int undone = engine.rollBack(ending);
-        engine.settle();
+        engine.settle(null);
         return undone;
     }
 
@@ -527,10 +531,6 @@ public final class RowForge {
             return targets[table * COLUMNS + column];
         }
 
-        int rule(int table, int column) {
-            return rules[table * COLUMNS + column];
-        }
-
         boolean refersTo(int table, int target) {
             for (int column = 1; column < widths[table]; column++) {
                 if (target(table, column) == target) {
@@ -586,20 +586,17 @@ public final class RowForge {
 
         /** The place of a row, or NONE. */
         int find(int table, int key) {
-            if (key == NULL) {
-                return NONE;
-            }
-            return findOrFree(table, key);
+            return key == NULL ? NONE : firstWith(table, key);
         }
 
         int findFree(int table) {
-            return findOrFree(table, NULL);
+            return firstWith(table, NULL);
         }
 
-        private int findOrFree(int table, int key) {
-            for (int row = 0; row < ROWS; row++) {
-                if (keyAt(table * ROWS + row) == key) {
-                    return table * ROWS + row;
+        private int firstWith(int table, int key) {
+            for (int place = table * ROWS; place < (table + 1) * ROWS; place++) {
+                if (cells[place * COLUMNS] == key) {
+                    return place;
                 }
             }
             return NONE;
@@ -650,6 +647,9 @@ public final class RowForge {
         int readCount;
         int[] readTables = new int[8];
         int[] readKeys = new int[8];
+
+        int written;
+        int[] footprints = new int[8];
 
         Transaction(int number, int role, int began) {
             this.number = number;
@@ -716,6 +716,14 @@ public final class RowForge {
         boolean knows(int table, int key) {
             return hasReadWhole(table) || hasReadKey(table, key);
         }
+
+        void noteFootprint(int footprint) {
+            if (written == footprints.length) {
+                footprints = Arrays.copyOf(footprints, 2 * written);
+            }
+            footprints[written] = footprint;
+            written++;
+        }
     }
 
     /** The records; a WRITE also holds the row as it is then, so that the log alone tells what is committed. */
@@ -727,6 +735,7 @@ public final class RowForge {
         int safe;
         int[] data = new int[64 * SIZE];
         final boolean[] isCommitted = new boolean[TRANSACTIONS];
+        final boolean[] isLeftOpen = new boolean[TRANSACTIONS];
 
         void add(int kind, int transaction, int table, int key) {
             int start = length * SIZE;
@@ -777,18 +786,29 @@ public final class RowForge {
             return data[record * SIZE + 3];
         }
 
-        private int countOf(int kind, int transaction) {
+        private int countUndone(int transaction) {
             int found = 0;
             for (int record = 0; record < length; record++) {
-                if (kindOf(record) == kind && writerOf(record) == transaction) {
+                if (kindOf(record) == UNDO && writerOf(record) == transaction) {
                     found++;
                 }
             }
             return found;
         }
 
-        boolean isLeftOpen(int transaction) {
-            return countOf(WRITE, transaction) > 0 && countOf(COMMIT, transaction) == 0 && countOf(ABORT, transaction) == 0;
+        /** Marks the transactions of which a WRITE is left, but no end; an end stands behind all WRITE records. */
+        void markLeftOpen() {
+            for (int i = 0; i < isLeftOpen.length; i++) {
+                isLeftOpen[i] = false;
+            }
+            for (int record = 0; record < length; record++) {
+                int kind = kindOf(record);
+                if (kind == WRITE) {
+                    isLeftOpen[writerOf(record)] = true;
+                } else if (kind == COMMIT || kind == ABORT) {
+                    isLeftOpen[writerOf(record)] = false;
+                }
+            }
         }
 
         /**
@@ -796,7 +816,7 @@ public final class RowForge {
          * so the UNDO records that are left belong to the last WRITE records.
          */
         int undoWrites(int transaction) {
-            int undone = countOf(UNDO, transaction);
+            int undone = countUndone(transaction);
             int made = 0;
             for (int record = length - 1; record >= 0; record--) {
                 if (kindOf(record) != WRITE || writerOf(record) != transaction) {
@@ -814,7 +834,9 @@ public final class RowForge {
         }
 
         int lastCommittedCell(int table, int key, int column) {
-            Arrays.fill(isCommitted, false);
+            for (int i = 0; i < isCommitted.length; i++) {
+                isCommitted[i] = false;
+            }
             for (int record = 0; record < length; record++) {
                 if (kindOf(record) == COMMIT) {
                     isCommitted[writerOf(record)] = true;
@@ -835,6 +857,7 @@ public final class RowForge {
         final Rows after = new Rows();
         final boolean[] isGone = new boolean[PLACES];
         final boolean[] isChanged = new boolean[PLACES];
+        final int[] referred = new int[PLACES * COLUMNS];
         final int[] tables = new int[PLACES];
         final int[] keys = new int[PLACES];
         int count;
@@ -908,50 +931,50 @@ public final class RowForge {
             if (place == NONE) {
                 return false;
             }
-            Arrays.fill(isGone, false);
-            Arrays.fill(isChanged, false);
+            findAllReferred(writer.rows);
             isGone[place] = true;
-            spreadCascades(writer.rows);
+            spreadCascades();
             readReferring(writer);
-            if (isRestricted(writer.rows)) {
+            if (isRestricted()) {
                 return false;
             }
-            changeRows(writer.rows);
+            changeRows();
             touchChanged(writer.rows);
             return true;
         }
 
-        private void spreadCascades(Rows rows) {
+        /** Finds for each cell the place of the row that it refers to; no row is gone or changed yet. */
+        private void findAllReferred(Rows rows) {
+            for (int cell = 0; cell < referred.length; cell++) {
+                int place = cell / COLUMNS;
+                int target = schema.targets[targetSlot(cell)];
+                referred[cell] = target == NONE ? NONE : rows.find(target, rows.cells[cell]);
+                isGone[place] = false;
+                isChanged[place] = false;
+            }
+        }
+
+        private static int targetSlot(int cell) {
+            return cell / (ROWS * COLUMNS) * COLUMNS + cell % COLUMNS;
+        }
+
+        private boolean refersToGone(int cell, int rule) {
+            int other = referred[cell];
+            return other != NONE && isGone[other] && !isGone[cell / COLUMNS] && schema.rules[targetSlot(cell)] == rule;
+        }
+
+        private void spreadCascades() {
             boolean isSpreading = true;
             // each pass but the last one deletes a row more, so there are no more passes than places
             for (int pass = 0; pass <= PLACES && isSpreading; pass++) {
                 isSpreading = false;
-                for (int place = 0; place < PLACES; place++) {
-                    if (!isGone[place] && refersToGone(rows, place, CASCADE)) {
-                        isGone[place] = true;
+                for (int cell = 0; cell < referred.length; cell++) {
+                    if (refersToGone(cell, CASCADE)) {
+                        isGone[cell / COLUMNS] = true;
                         isSpreading = true;
                     }
                 }
             }
-        }
-
-        private boolean refersToGone(Rows rows, int place, int rule) {
-            for (int column = 1; column < COLUMNS; column++) {
-                if (columnRefersToGone(rows, place, column, rule)) {
-                    return true;
-                }
-            }
-            return false;
-        }
-
-        private boolean columnRefersToGone(Rows rows, int place, int column, int rule) {
-            int table = place / ROWS;
-            int target = schema.target(table, column);
-            if (target == NONE || schema.rule(table, column) != rule || rows.keyAt(place) == NULL) {
-                return false;
-            }
-            int referred = rows.find(target, rows.cells[Rows.startOf(place) + column]);
-            return referred != NONE && isGone[referred];
         }
 
         private void readReferring(Transaction writer) {
@@ -964,27 +987,26 @@ public final class RowForge {
             }
         }
 
-        private boolean isRestricted(Rows rows) {
-            for (int place = 0; place < PLACES; place++) {
-                if (!isGone[place] && refersToGone(rows, place, RESTRICT)) {
+        private boolean isRestricted() {
+            for (int cell = 0; cell < referred.length; cell++) {
+                if (refersToGone(cell, RESTRICT)) {
                     return true;
                 }
             }
             return false;
         }
 
-        private void changeRows(Rows rows) {
+        private void changeRows() {
+            for (int cell = 0; cell < referred.length; cell++) {
+                if (refersToGone(cell, BLANK)) {
+                    after.cells[cell] = NULL;
+                    isChanged[cell / COLUMNS] = true;
+                }
+            }
             for (int place = 0; place < PLACES; place++) {
                 if (isGone[place]) {
                     after.remove(place);
                     isChanged[place] = true;
-                    continue;
-                }
-                for (int column = 1; column < COLUMNS; column++) {
-                    if (columnRefersToGone(rows, place, column, BLANK)) {
-                        after.cells[Rows.startOf(place) + column] = NULL;
-                        isChanged[place] = true;
-                    }
                 }
             }
         }
@@ -1059,13 +1081,6 @@ public final class RowForge {
             return isNumber(key) ? table * KEYS + key + LARGEST : NONE;
         }
 
-        int tryWrite(Transaction writer) {
-            attempt(writer);
-            int result = writer.lastOutcome;
-            settle();
-            return result;
-        }
-
         private void attempt(Transaction writer) {
             if (!trial.allows(writer)) {
                 writer.lastOutcome = REFUSED;
@@ -1128,23 +1143,27 @@ public final class RowForge {
             writer.rows.copyFrom(trial.after);
             for (int i = 0; i < trial.count; i++) {
                 int footprint = footprint(trial.tables[i], trial.keys[i]);
-                if (footprint != NONE) {
+                if (footprint != NONE && writers[footprint] != writer.number) {
                     writers[footprint] = writer.number;
+                    writer.noteFootprint(footprint);
+                }
+                if (footprint != NONE) {
                     log.addWrite(writer.number, trial.tables[i], trial.keys[i], writer.rows);
                 }
             }
         }
 
-        /** Lets those try again that wait for one that has ended, the lowest one first each time. */
-        void settle() {
-            for (int turn = 0; turn < MOST_TURNS; turn++) {
-                Transaction next = lowestFreed();
-                if (next == null) {
-                    return;
-                }
+        /**
+         * Tries the write of the first one, if there is one, and then those of the ones that wait for one that has
+         * ended, the lowest first each time. If the first one has ended or waits by that, it is not tried again here.
+         */
+        void settle(Transaction first) {
+            Transaction next = first != null ? first : lowestFreed();
+            for (int turn = 0; turn < MOST_TURNS && next != null; turn++) {
                 next.phase = ACTIVE;
                 next.blocker = NONE;
                 attempt(next);
+                next = lowestFreed();
             }
         }
 
@@ -1167,10 +1186,8 @@ public final class RowForge {
         private void finish(Transaction ending, int phase) {
             ending.phase = phase;
             ending.blocker = NONE;
-            for (int i = 0; i < writers.length; i++) {
-                if (writers[i] == ending.number) {
-                    writers[i] = NONE;
-                }
+            for (int i = 0; i < ending.written; i++) {
+                writers[ending.footprints[i]] = NONE;
             }
         }
 
@@ -1181,7 +1198,6 @@ public final class RowForge {
             } else {
                 rollBack(ending);
             }
-            settle();
             return isFit ? DONE : FAILED;
         }
 
@@ -1244,11 +1260,10 @@ public final class RowForge {
 
         private void stampWrites(Transaction ending) {
             commits++;
-            for (int i = 0; i < writers.length; i++) {
-                if (writers[i] == ending.number) {
-                    stamps[i] = commits;
-                    tableStamps[i / KEYS] = commits;
-                }
+            for (int i = 0; i < ending.written; i++) {
+                int footprint = ending.footprints[i];
+                stamps[footprint] = commits;
+                tableStamps[footprint / KEYS] = commits;
             }
         }
 
@@ -1260,9 +1275,10 @@ public final class RowForge {
                     finish(each, ABORTED);
                 }
             }
+            log.markLeftOpen();
             int undone = 0;
             for (int i = 0; i < transactions.size(); i++) {
-                if (log.isLeftOpen(i)) {
+                if (log.isLeftOpen[i]) {
                     undone += log.undoWrites(i);
                 }
             }
@@ -1476,7 +1492,7 @@ public final class RowForge {
         /** NULL is the least int, so it comes ahead of all values without more ado. */
         int compareRows(int row, Relation other, int otherRow) {
             for (int column = 0; column < width; column++) {
-                int sign = Integer.compare(cell(row, column), other.cell(otherRow, column));
+                int sign = Integer.compare(cells[row * width + column], other.cells[otherRow * width + column]);
                 if (sign != 0) {
                     return sign;
                 }
@@ -1698,7 +1714,9 @@ public final class RowForge {
             int kind = query.parameter(operator, 0);
             int leftColumn = query.parameter(operator, 1);
             int rightColumn = query.parameter(operator, 2);
-            Arrays.fill(isMatched, false);
+            for (int other = 0; other < right.rows; other++) {
+                isMatched[other] = false;
+            }
             for (int row = 0; row < left.rows; row++) {
                 boolean isAlone = true;
                 for (int other = 0; other < right.rows; other++) {
@@ -1812,7 +1830,9 @@ public final class RowForge {
 
         /** Marks what is reached from the block's first join, and where its columns begin among those of that join. */
         private void reach(Query query, int top) {
-            Arrays.fill(isReached, false);
+            for (int operator = 0; operator < OPERATORS; operator++) {
+                isReached[operator] = false;
+            }
             isReached[top] = true;
             offsets[top] = 0;
             for (int operator = top; operator >= 0; operator--) {
