@@ -356,6 +356,8 @@ public final class PromiseTests {
         run(9, two + "update 1 0 1 1 1 = DONE; update 2 0 1 1 1 = WAITS; update 3 0 2 1 7 = DONE; update 3 0 1 1 7 = WAITS; waitsFor 3 = 1; commit 1 = DONE; outcome 2 = FAILED; outcome 3 = FAILED; log WRITE,0,0,1 WRITE,0,0,2 WRITE,0,0,3 COMMIT,0 WRITE,1,0,1 WRITE,3,0,2 COMMIT,1 ABORT,2 UNDO,3,0,2 ABORT,3");
         // a write that is refused is refused, whoever wrote the row
         run(9, two + "update 1 0 1 1 5 = DONE; update 2 0 1 1 6 = WAITS; abort 1 = 1; row 2 0 2 2 = REFUSED; outcome 2 = REFUSED; commit 2 = DONE; outcome 2 = REFUSED; committed 0 1 1 = 6");
+        // the transaction 0 as any other
+        run(10, "table 2 = 0; begin 0 = 0; begin 0 = 1; row 0 0 1 1 = DONE; row 1 0 2 2 = DONE; row 0 0 2 3 = WAITS; row 1 0 1 3 = VICTIM; state 1 = ABORTED; outcome 0 = DONE; own 0 0 2 1 = 3; begin 0 = 2; row 2 0 2 2 = WAITS; waitsFor 2 = 0; crash 5 = 2; state 0 = ABORTED; state 2 = ABORTED; waitsFor 2 = NONE");
         // a row that is inserted and deleted again is still written
         run(10, two + "row 1 0 7 7 = DONE; delete 1 0 7 = DONE; row 2 0 7 1 = WAITS; commit 1 = DONE; outcome 2 = FAILED; row 3 0 7 0 = FAILED");
     }
