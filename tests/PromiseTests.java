@@ -220,6 +220,7 @@ public final class PromiseTests {
         puts();
         joins();
         results();
+        largest();
         plans();
         views();
         logs();
@@ -483,6 +484,14 @@ public final class PromiseTests {
         run(32, one + "at 0 0 ! IOOBE; rows 0 0 3,4 1,NULL; at 0 0 ! IOOBE; run 0 0 = 2; at 0 0 = 1; at 0 1 = NULL; at 1 0 = 3; at 1 1 = 4; at 2 0 ! IOOBE; at -1 0 ! IOOBE; at 0 2 ! IOOBE; at 0 -1 ! IOOBE; delete 0 0 1 = DONE; at 0 0 = 1; abort 0 = 3; at 0 0 = 1; crash 2 = 2; at 1 1 = 4; begin 0 = 1; atByLoops 1 0 0 0 ! IOOBE; at 1 1 = 4; run 1 0 = 0; at 0 0 ! IOOBE");
         run(33, "atByLoops 0 0 0 0 ! IOOBE; " + one + "rows 0 0 3,4 1,1; atByLoops 0 2 0 0 ! IOOBE; atByLoops 0 -1 0 0 ! IOOBE; atByLoops 1 0 0 0 ! IOOBE; atByLoops -1 0 0 0 ! IOOBE; atByLoops 0 0 0 0 = 1; atByLoops 0 0 1 1 = 4; atByLoops 0 0 2 0 ! IOOBE; atByLoops 0 0 -1 0 ! IOOBE; atByLoops 0 0 0 2 ! IOOBE; atByLoops 0 0 0 -1 ! IOOBE;"
             + "hasRead 0 0 99 = 0; at 0 0 ! IOOBE; atByLoops 0 1 0 0 = 1; row 0 0 5 0 = DONE; atByLoops 0 1 0 0 ! AE; atByLoops 0 1 99 0 ! AE; begin 0 = 1; row 1 0 3 0 = WAITS; atByLoops 1 0 0 0 ! ISE; commit 0 = DONE; atByLoops 0 0 0 0 ! ISE; atByLoops 0 0 99 0 ! ISE; atByLoops 0 1 99 0 ! ISE; atByLoops 0 2 99 0 ! IOOBE; state 1 = ABORTED; atByLoops 1 0 0 0 ! ISE");
+    }
+
+    /** The largest results: three tables of 8 rows that all meet. */
+    static void largest() {
+        String full = "table 3 = 0; begin 0 = 0; row 0 0 1 5 1 = DONE; row 0 0 2 5 2 = DONE; row 0 0 3 5 3 = DONE; row 0 0 4 5 4 = DONE; row 0 0 5 5 5 = DONE; row 0 0 6 5 6 = DONE; row 0 0 7 5 7 = DONE; row 0 0 8 5 8 = DONE; ";
+        run(31, full + "scan 0 = 1; scan 0 = 2; scan 0 = 3; join INNER 1 1 = 2; join INNER 1 1 = 1; query = 0; scan 0 = 1; scan 0 = 2; join LEFT 1 1 = 1; scan 0 = 2; join FULL 4 1 = 1; group NONE SUM 8 = 1; query = 1;"
+            + "scan 0 = 1; scan 0 = 2; scan 0 = 3; join INNER 1 1 = 2; join FULL 0 0 = 1; group 6 COUNT 0 = 1; query = 2; run 0 0 = 512; at 0 0 = 1; at 511 0 = 8; at 511 8 = 8; at 511 9 ! IOOBE; at 512 0 ! IOOBE; at 64 0 = 2; at 64 3 = 1; at 8 3 = 2; at 8 6 = 1; at 7 6 = 8; at 100 0 = 2; at 100 3 = 5; at 100 6 = 5;"
+            + "atByLoops 0 0 511 6 = 8; atByLoops 0 0 512 0 ! IOOBE; gives 0 1 : NULL,2304; gives 0 2 : 1,8 2,8 3,8 4,8 5,8 6,8 7,8 8,8; view 0 = 0; commit 0 = DONE; viewRows 0 = 512; viewAt 0 511 8 = 8; viewAnew 0 100 6 = 5");
     }
 
     static void plans() {
